@@ -766,13 +766,14 @@ public final class PeatHearths {
 
     /** States of the land, the latest on top; where there is no room for one more, the oldest is dropped. */
     private static final class Shelf {
-        private final int[] rows = new int[MOST_SAVED * Land.SIZE];
+        private final int[] rows;
         private final int most;
         private int top;
         private int many;
 
         Shelf(int most) {
             this.most = Math.max(1, Math.min(most, MOST_SAVED));
+            this.rows = new int[this.most * Land.SIZE];
         }
 
         int size() {

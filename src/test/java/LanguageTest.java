@@ -110,11 +110,12 @@ final class LanguageTest {
         for (char sign : text.toCharArray()) {
             c.dueTrue("the source is ASCII", sign < 128);
         }
-        // Nothing is made but in fields and by throw, so that a call needs no room.
+        // Nothing is made but for fields and by throw, so that a call needs no room.
         Matcher made = Pattern.compile("[^\n]*\\bnew\\b[^\n]*").matcher(code);
         while (made.find()) {
             String line = made.group().trim();
-            c.dueTrue("made in a call: " + line, line.startsWith("private final ") || line.startsWith("throw new "));
+            c.dueTrue("made in a call: " + line, line.startsWith("private final ") || line.startsWith("this.")
+                || line.startsWith("throw new "));
         }
     }
 
