@@ -8,6 +8,13 @@ public final class AllTests {
         UndoTest.run(checks);
         LooksTest.run(checks);
         WouldBeTest.run(checks);
+        DayBoundsTest.run(checks);
+        GiftBoundsTest.run(checks);
+        TermsBoundsTest.run(checks);
+        ArgumentBoundsTest.run(checks);
+        SavedBoundsTest.run(checks);
+        TextBoundsTest.run(checks);
+        WouldBeBoundsTest.run(checks);
         LanguageTest.run(checks);
         RandomRunsTest.run(checks);
         System.out.println(checks.made() + " checks, " + checks.wrong() + " wrong");

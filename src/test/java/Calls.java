@@ -9,12 +9,11 @@ final class Calls {
         }
     }
 
-    /** What the first syntax error of a text is, on an object whose buffer is empty before and after. */
-    static int errorOf(PeatHearths x, String text) {
+    /** The first syntax error of a text, on an object of its own: one is used for at most 512 calls. */
+    static int errorOf(String text) {
+        PeatHearths x = new PeatHearths();
         type(x, text);
-        int error = x.firstError();
-        x.clearBuffer();
-        return error;
+        return x.firstError();
     }
 
     static int playText(PeatHearths x, String text) {

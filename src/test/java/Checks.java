@@ -36,6 +36,13 @@ final class Checks {
         }
     }
 
+    void dueText(String call, String got, String want) {
+        made++;
+        if (!got.equals(want)) {
+            fail(call + " answered " + got + ", due is " + want);
+        }
+    }
+
     void dueTrue(String what, boolean holds) {
         made++;
         if (!holds) {

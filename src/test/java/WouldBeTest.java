@@ -64,8 +64,9 @@ final class WouldBeTest {
         for (int h = 0; h < 5; h++) {
             PeatHearths y = lived();
             int due = -1;
+            int need = y.hearthOf(h, 1);
             for (int d = 0; d <= 200 && due < 0; d++) {
-                if (y.hearthOf(h, 2) >= y.hearthOf(h, 1)) {
+                if (y.hearthOf(h, 2) >= need) {
                     due = d;
                 }
                 y.pass(1);
@@ -224,19 +225,27 @@ final class WouldBeTest {
 
     private static void digest(Checks c) {
         c.section("promise 29");
-        PeatHearths x = new PeatHearths();
-        c.due("of a new object", x.digest(), digestOf(x, ""));
-        x.work(0, 0, 1);
-        for (int d = 1; d <= 80; d++) {
-            x.pass(1);
-            if (d % 20 == 0) {
-                x.snow();
-            }
-            c.due("on the day " + d, x.digest(), digestOf(x, ""));
+        for (int day = 0; day <= 80; day++) {
+            PeatHearths x = dayWithSnowAtTimes(day);
+            c.due("on the day " + day, x.digest(), digestOf(x, ""));
         }
+        PeatHearths x = dayWithSnowAtTimes(30);
         String text = "c0>~!z";
         Calls.type(x, text);
         c.due("with a buffer", x.digest(), digestOf(x, text));
+    }
+
+    /** Snow comes and goes by 20 days. */
+    private static PeatHearths dayWithSnowAtTimes(int day) {
+        PeatHearths x = new PeatHearths();
+        x.work(0, 0, 1);
+        for (int n = 1; n <= day; n++) {
+            x.pass(1);
+            if (n % 20 == 0) {
+                x.snow();
+            }
+        }
+        return x;
     }
 
     private static void nothingChanges(Checks c) {
