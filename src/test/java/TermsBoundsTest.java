@@ -12,6 +12,7 @@ final class TermsBoundsTest {
         sharesRunOut(c);
         sharesAddUp(c);
         cuttersStayWithoutShares(c);
+        turvesStayTheHearths(c);
         shortBy(c);
         willBeShortBy(c);
         toldTheSecondWay(c);
@@ -247,6 +248,23 @@ final class TermsBoundsTest {
         x.rest(0);
         c.due("two stay", x.bankOf(1, 3), 2);
         c.due("none can come", x.whyNot(0, 0, 1), 1);
+    }
+
+    private static void turvesStayTheHearths(Checks c) {
+        c.section("\"A turf belongs to a hearth, and lies on a bank, until it is carted home\"");
+        PeatHearths x = Ground.pile(0, 1, 25);
+        x.set(1, 0);
+        x.track(1, 15);
+        c.due("all shares are given", x.give(0, 2, 1, 3), 6);
+        c.due("the turves are not", x.plot(0, 1, Ground.DRY), 25);
+        c.due("the getter has none there", x.plot(2, 1, Ground.DRY), 0);
+        c.due("home without a share", Ground.dayOfRain(x, Ground.IDLE), 15);
+        c.due("to the hearth", x.hearthOf(0, 2), 15);
+        c.due("left there", x.hearthOf(0, 3), 10);
+        Ground.dayOfRain(x, 7);
+        c.dueText("half of them become wet, the others go home", Ground.turves(x, 0, 1), "5 0 0");
+        c.due("at home", x.hearthOf(0, 2), 20);
+        c.due("cut in all", x.hearthOf(0, 7), 25);
     }
 
     /** The hearth 0 has 60 turves at home, and 40 dry ones on the bank 2. */
