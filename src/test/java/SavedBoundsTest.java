@@ -16,6 +16,7 @@ final class SavedBoundsTest {
         oldestIsDropped(c);
         undoneAndSavedAgain(c);
         allIsRestored(c);
+        olderStatesAreWhole(c);
         oneStateForManyDays(c);
         snapshotBounds(c);
         snapshotStays(c);
@@ -167,6 +168,34 @@ final class SavedBoundsTest {
         c.dueTrue("more is cut", x.cutter(2, 3) > cut);
         x.undo();
         c.dueText("all is as before", UndoTest.looks(x), before);
+    }
+
+    /** Each saved state, the oldest and the latest too, comes back with all that it had. */
+    private static void olderStatesAreWhole(Checks c) {
+        c.section("\"saves the state from before it .. all\": of each of the six");
+        for (int undos = 1; undos <= 6; undos++) {
+            for (int before = 0; before <= 6; before++) {
+                PeatHearths x = new PeatHearths();
+                x.set(1, 50);
+                int[][] places = {{0, 1}, {0, 2}, {1, 0}, {2, 3}, {3, 1}, {3, 2}};
+                for (int w = 0; w < 6; w++) {
+                    x.work(w, places[w][0], places[w][1]);
+                }
+                x.pass(9 + before);
+                for (int n = 0; n < before; n++) {
+                    x.rest(n % 6);
+                }
+                String due = UndoTest.looks(x);
+                for (int n = 0; n < undos; n++) {
+                    x.pass(7);
+                    x.keep();
+                }
+                for (int n = 0; n < undos; n++) {
+                    x.undo();
+                }
+                c.dueText("behind " + undos + " undos", UndoTest.looks(x), due);
+            }
+        }
     }
 
     private static void oneStateForManyDays(Checks c) {

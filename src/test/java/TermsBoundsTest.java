@@ -9,12 +9,14 @@ final class TermsBoundsTest {
         whoWorksCountsAlready(c);
         cuttersAreCounted(c);
         snowLetsAllRest(c);
+        snowLeavesWhatIsCounted(c);
         sharesRunOut(c);
         sharesAddUp(c);
         cuttersStayWithoutShares(c);
         turvesStayTheHearths(c);
         shortBy(c);
         willBeShortBy(c);
+        shortAmongAll(c);
         toldTheSecondWay(c);
         rainAhead(c);
         objectsAreApart(c);
@@ -191,6 +193,31 @@ final class TermsBoundsTest {
         c.due("undo brings the work back", x.cutter(0, 1), 0);
     }
 
+    private static void snowLeavesWhatIsCounted(Checks c) {
+        c.section("promise 8: snow changes nothing else");
+        PeatHearths x = new PeatHearths();
+        int[][] places = {{0, 1}, {0, 2}, {1, 0}, {2, 3}, {3, 1}, {3, 2}};
+        for (int w = 0; w < 6; w++) {
+            x.work(w, places[w][0], places[w][1]);
+        }
+        x.pass(3);
+        for (int times = 0; times < 2; times++) {
+            x.snow();
+            for (int w = 0; w < 6; w++) {
+                c.due("cut by " + w, x.cutter(w, 3), 3 * (10 + 2 * w));
+                c.due("strength of " + w, x.cutter(w, 0), 10 + 2 * w);
+            }
+            for (int b = 0; b < 4; b++) {
+                c.due("carts of " + b, x.bankOf(b, 1), 40);
+                c.due("shares of the commons of " + b, x.bankOf(b, 2), 3);
+            }
+            for (int what = 9; what <= 11; what++) {
+                c.due("count(" + what + ")", x.count(what), new int[] {3, 10, 8}[what - 9]);
+            }
+            c.due("the day", x.count(0), 3);
+        }
+    }
+
     private static void sharesRunOut(Checks c) {
         c.section("promise 7: \"if from has not so many\"");
         PeatHearths x = new PeatHearths();
@@ -310,6 +337,30 @@ final class TermsBoundsTest {
             c.due("will be short by one that is burnt a day, day " + day, x.hearthOf(0, 5), 1 + day);
             c.due("the second way, day " + day, x.hearthOf(0, 6), 1 + day);
         }
+    }
+
+    /** The widow at the hearth 0 has more than was ever cut for it. */
+    private static void shortAmongAll(Checks c) {
+        c.section("promise 23: \"hearths that are short\", \"hearths that will be short\"");
+        PeatHearths x = new PeatHearths();
+        x.hearth(0, true, 50);
+        x.set(1, 50);
+        for (int many : new int[] {40, 40, 40}) {
+            Ground.cutWet(x, 1, 2, many);
+        }
+        Ground.dryAll(x);
+        x.track(2, 90);
+        x.hearth(4, false, 300);
+        Ground.dayOfRain(x, Ground.IDLE);
+        Ground.dayOfRain(x, Ground.IDLE);
+        c.due("0 was given", x.hearthOf(0, 2), 60);
+        c.due("of 0 is cut", x.hearthOf(0, 7), 0);
+        c.due("short are 1 to 4", x.count(7), 4);
+        c.due("will be short are 1 to 4", x.count(8), 4);
+        x.hearth(1, false, 60);
+        c.due("short are 2 to 4", x.count(7), 3);
+        c.due("will be short are 2 to 4", x.count(8), 3);
+        c.due("would be short are 2 to 4", x.ifPassed(1, 1), 3);
     }
 
     private static void toldTheSecondWay(Checks c) {

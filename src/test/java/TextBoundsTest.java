@@ -12,6 +12,7 @@ final class TextBoundsTest {
         numbersOfEachPart(c);
         oneOrMoreParts(c);
         stopsAtEachReason(c);
+        longerTextBefore(c);
         doesNotComeBack(c);
     }
 
@@ -171,6 +172,25 @@ final class TextBoundsTest {
         c.due("the buffer is clear", x.clearBuffer(), 0);
         c.due("the first part of all", Calls.playText(x, "c0>0/1"), 0);
         c.due("room by a part before", Calls.playText(x, "c0>0/3;c1>0/3;c2>0/3;r1;c3>0/3;c1>0/3;+1"), 5);
+    }
+
+    private static void longerTextBefore(Checks c) {
+        c.section("promises 12 to 14: nothing is left of a longer text");
+        PeatHearths x = new PeatHearths();
+        Calls.type(x, "+60");
+        x.clearBuffer();
+        c.due("+6", Calls.playText(x, "+6"), 1);
+        c.due("the day", x.count(0), 6);
+        c.due("*;+12", Calls.playText(x, "*;+12"), 2);
+        c.due("*;+1", Calls.playText(x, "*;+1"), 2);
+        c.due("the day", x.count(0), 6 + 12 + 1);
+        Calls.type(x, "r0;r1;r2");
+        x.clearBuffer();
+        c.due("r3", Calls.playText(x, "r3"), 1);
+        Calls.type(x, "*;x");
+        x.clearBuffer();
+        Calls.type(x, "*;");
+        c.due("firstError()", x.firstError(), 2);
     }
 
     private static void doesNotComeBack(Checks c) {
