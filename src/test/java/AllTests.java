@@ -15,6 +15,7 @@ public final class AllTests {
         SavedBoundsTest.run(checks);
         TextBoundsTest.run(checks);
         WouldBeBoundsTest.run(checks);
+        ReadmeTest.run(checks);
         LanguageTest.run(checks);
         RandomRunsTest.run(checks);
         System.out.println(checks.made() + " checks, " + checks.wrong() + " wrong");

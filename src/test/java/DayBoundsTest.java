@@ -141,7 +141,7 @@ final class DayBoundsTest {
             PeatHearths x = Ground.fewWet(wet);
             x.set(1, 0);
             // The other turves of the bank are the hearth 2's; on a day that begins with 0 they are not asked first.
-            while ((x.count(0) + daysOfSnow + 1) % 5 != 0) {
+            for (int step = 0; step < 5 && (x.count(0) + daysOfSnow + 1) % 5 != 0; step++) {
                 Ground.dayOfRain(x, Ground.IDLE);
             }
             if (daysOfSnow > 0) {

@@ -10,6 +10,8 @@ final class GiftBoundsTest {
         fewestNotNeediest(c);
         lowestOfSeveral(c);
         poorestAtThatMoment(c);
+        atOnceOnTheBank(c);
+        atOnceOnTheDay(c);
         ifThereIsOne(c);
         cameHomeIsAll(c);
     }
@@ -194,6 +196,48 @@ final class GiftBoundsTest {
         Ground.dryAll(y);
         Ground.dayOfRain(y, Ground.IDLE);
         c.due("5 of the bank 0 are home before the gift of the bank 1", y.hearthOf(4, 8), 4);
+    }
+
+    /** What a widow carts home herself counts from then on, and not before. */
+    private static void atOnceOnTheBank(Checks c) {
+        c.section("the fewest at home at that moment: hearth by hearth");
+        int[][] dayModulo5AndGifts = {{0, 4, 0}, {1, 4, 0}, {2, 0, 4}, {3, 4, 0}, {4, 4, 0}};
+        for (int[] due : dayModulo5AndGifts) {
+            PeatHearths x = new PeatHearths();
+            x.hearth(2, true, 300);
+            Ground.cutWet(x, 1, 0, 40);
+            Ground.cutWet(x, 2, 0, 40);
+            x.track(0, 80);
+            dryOnTheEveOf(x, due[0]);
+            c.due("home", Ground.dayOfRain(x, Ground.IDLE), 80);
+            String asked = "asked first is " + due[0] + ": ";
+            c.due(asked + "given to 2", x.hearthOf(2, 8), due[1]);
+            c.due(asked + "given to 4", x.hearthOf(4, 8), due[2]);
+            c.due(asked + "2 has", x.hearthOf(2, 2), 40 + due[1]);
+            c.due(asked + "1 keeps", x.hearthOf(1, 2), 36);
+        }
+    }
+
+    private static void atOnceOnTheDay(Checks c) {
+        c.section("the fewest at home at that moment: bank by bank");
+        for (int dayModulo5 = 0; dayModulo5 < 5; dayModulo5++) {
+            for (int bankOfTheWidow : new int[] {0, 1, 3}) {
+                PeatHearths x = new PeatHearths();
+                x.hearth(2, true, 300);
+                Ground.cutWet(x, 1, 2, 40);
+                Ground.cutWet(x, 2, bankOfTheWidow, 40);
+                dryOnTheEveOf(x, dayModulo5);
+                c.due("home", Ground.dayOfRain(x, Ground.IDLE), 80);
+                String asked = "2 has turves on " + bankOfTheWidow + ", asked first is " + dayModulo5 + ": ";
+                c.due(asked + "given to 2", x.hearthOf(2, 8), bankOfTheWidow > 2 ? 4 : 0);
+                c.due(asked + "given to 4", x.hearthOf(4, 8), bankOfTheWidow > 2 ? 0 : 4);
+            }
+        }
+    }
+
+    /** All turves become dry, and the next day modulo 5 is the one that is told. */
+    private static void dryOnTheEveOf(PeatHearths x, int dayModulo5) {
+        Ground.underSnow(x, 30 + Math.floorMod(dayModulo5 - 1 - x.count(0), 5));
     }
 
     private static void ifThereIsOne(Checks c) {

@@ -1,5 +1,4 @@
 import java.lang.reflect.Field;
-import java.lang.reflect.Member;
 import java.lang.reflect.Method;
 import java.lang.reflect.Modifier;
 import java.nio.file.Files;
@@ -43,6 +42,13 @@ final class LanguageTest {
             }
         }
         c.dueTrue("methods are " + got + ", due are " + want, got.equals(want));
+        for (Class<?> one : PeatHearths.class.getDeclaredClasses()) {
+            for (Method m : one.getDeclaredMethods()) {
+                if (Modifier.isPrivate(m.getModifiers())) {
+                    privateNames.add(m.getName());
+                }
+            }
+        }
         privateNames.retainAll(publicNames);
         c.dueTrue("private methods with public names: " + privateNames, privateNames.isEmpty());
         c.due("constructors", PeatHearths.class.getDeclaredConstructors().length, 1);
@@ -85,9 +91,42 @@ final class LanguageTest {
             c.dueTrue(f + " is final", !isStatic || Modifier.isFinal(f.getModifiers()));
         }
         c.dueTrue(one + " has at most twenty fields", own <= 20);
-        for (Member m : one.getDeclaredMethods()) {
+        for (Method m : one.getDeclaredMethods()) {
             c.dueTrue(m + " is not synthetic", !m.isSynthetic());
+            c.dueTrue(m + " takes at most seven", m.getParameterCount() <= 7);
         }
+    }
+
+    /** A member of the outer class stands four spaces in, one of a class inside it eight. */
+    private static void lengths(Checks c, String code) {
+        String outer = "    ";
+        String indent = outer;
+        int begin = 0;
+        int methods = 0;
+        String[] lines = code.split("\n", -1);
+        for (int n = 0; n < lines.length; n++) {
+            String line = lines[n];
+            if (line.startsWith(outer + "private static final class ")) {
+                indent = outer + outer;
+            } else if (line.matches(indent + "[A-Za-z].*\\(.*") && !line.endsWith(";")) {
+                begin = n;
+            } else if (line.equals(indent + "}")) {
+                methods++;
+                c.dueTrue("at most sixty lines: " + lines[begin].trim(), n - begin < 60);
+            } else if (line.equals(outer + "}")) {
+                indent = outer;
+            }
+        }
+        c.due("methods and constructors whose lines are counted", methods, methodsAndConstructors());
+    }
+
+    private static int methodsAndConstructors() {
+        int many = PeatHearths.class.getDeclaredMethods().length + PeatHearths.class.getDeclaredConstructors().length;
+        for (Class<?> one : PeatHearths.class.getDeclaredClasses()) {
+            many += one.getDeclaredMethods().length;
+        }
+        // Land and Shelf write a constructor of their own, Text has none.
+        return many + 2;
     }
 
     private static void words(Checks c) {
@@ -107,6 +146,7 @@ final class LanguageTest {
         for (String word : none) {
             c.dueTrue("the source has " + word, !Pattern.compile(word).matcher(code).find());
         }
+        lengths(c, code);
         for (char sign : text.toCharArray()) {
             c.dueTrue("the source is ASCII", sign < 128);
         }

@@ -175,7 +175,7 @@ final class WouldBeBoundsTest {
         x.track(1, 90);
         x.set(1, 0);
         x.strength(0, 40);
-        while (x.count(0) % 5 != dayModulo5) {
+        for (int step = 0; step < 5 && x.count(0) % 5 != dayModulo5; step++) {
             Ground.underSnow(x, 1);
         }
         x.set(0, rain);
