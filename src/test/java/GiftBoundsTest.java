@@ -150,6 +150,15 @@ final class GiftBoundsTest {
         x.undo();
         Ground.cutWet(x, 1, 2, 40);
         c.due("1 has 3, and 40 on banks", x.hearthOf(1, 8), 10);
+        for (int has = 30; has <= 32; has++) {
+            PeatHearths y = homes(has, 35, 36);
+            y.hearth(4, false, 300);
+            y.hearth(2, true, 300);
+            Ground.dayOfRain(y, Ground.IDLE);
+            c.due("1 has " + (has - 30) + ", but is no widow's", y.hearthOf(1, 8), 0);
+            c.due("2 is a widow's", y.hearthOf(2, 8), 10);
+            c.due("2 has", y.hearthOf(2, 2), 15);
+        }
     }
 
     private static void lowestOfSeveral(Checks c) {
